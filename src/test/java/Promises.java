@@ -165,6 +165,17 @@ public final class Promises {
         due("what 12", t.rooms(0, 12), -1);
         due("what -1", t.rooms(0, -1), -1);
         due("-1 ahead of -2", t.rooms(9, 12), -1);
+        oneWithinAnother();
+    }
+
+    private static void oneWithinAnother() {
+        IceTrade t = withRoom(4, 1, 1, 1);
+        t.cut(0, 0, 2, 1000);
+        for (int n = 1; n < 8; n++) {
+            addRoom(t, 2, 1, 1, 1, n - 1);
+            t.cut(n, 0, 2, 1000);
+            due("WARMTH of " + n, t.rooms(n, 5), 30 - 2 - 2 * n);
+        }
     }
 
     private static void promise4() {
@@ -808,6 +819,30 @@ public final class Promises {
         due("at the end", t.foretell(5, 0), 0);
         due("ahead of the first", t.foretold(0, 0), t.count(2));
         due("foretold(0, 1)", t.foretold(0, 1), -1);
+        theLargest();
+    }
+
+    /** As many ROOMS, BLOCKS and days as there can be. */
+    private static void theLargest() {
+        IceTrade t = withRoom(0, 6, 6, 5);
+        addRoom(t, 0, 6, 6, 4, -1);
+        for (int n = 2; n < 8; n++) {
+            t.room(0, 6, 6, 5, -1);
+        }
+        for (int b = 0; b < 300; b++) {
+            t.cut(b < 180 ? 0 : 1, b < 180 ? b : b - 180, 0, 1000000);
+        }
+        t.warm(0, bits(0.1f));
+        t.foretell(200, 0);
+        due("days", t.foretold(7, 199), 0);
+        int air = t.rooms(0, 10);
+        int sides = air + t.rooms(1, 10);
+        due("grams behind the last day", t.foretold(-1, 199), 300000000 - 199 * 3 * sides);
+        due("MELTED", t.day(), 3 * sides);
+        due("all can be TAKEN", t.take(0, 180), 180000000 - 3 * air);
+        due("the most that can be SENT", t.send(1, 100000000), 101);
+        due("list(100)", t.list(100) >= 180 ? 1 : 0, 1);
+        due("list(101)", t.list(101), -1);
     }
 
     private static void promise26() {
@@ -943,6 +978,29 @@ public final class Promises {
         due("the HEAP stays", t.count(14), 2);
         due("BLOCKS", t.count(8), 299);
         due("-6 ahead of -7", t.pack(0), -6);
+        IceTrade twice = withRoom(0, 2, 2, 2);
+        addRoom(twice, 0, 3, 3, 2, -1);
+        for (int n = 0; n < 8; n++) {
+            twice.heap(0, 1000);
+        }
+        due("all of it", twice.pack(0), 24);
+        twice.heap(0, 1000);
+        twice.heap(0, 1000);
+        due("the HEAP anew", twice.pack(1), 10);
+        duePlaces(twice, 1, new int[] {18, 19, 0, 0, 0, 0, 0, 0, 0, 0, 0, 0, 0, 0, 0, 0, 0, 0});
+        theLastBlock();
+    }
+
+    private static void theLastBlock() {
+        IceTrade t = withRoom(0, 6, 6, 5);
+        addRoom(t, 0, 6, 5, 4, -1);
+        addRoom(t, 0, 1, 1, 1, -1);
+        for (int b = 0; b < 299; b++) {
+            t.cut(b < 180 ? 0 : 1, b < 180 ? b : b - 180, 0, 1000);
+        }
+        t.heap(0, 1000);
+        due("the 300th", t.pack(2), 6);
+        due("place(2, 0)", t.place(2, 0), 309);
     }
 
     private static void promise30() {
@@ -1004,6 +1062,14 @@ public final class Promises {
         due("without water", t.rooms(1, 9), 0);
         due("kept on", t.back(2), 0);
         due("ROOMS", t.count(10), 1);
+        addRoom(t, 0, 2, 1, 1, -1);
+        t.put(1, 0, 1);
+        t.cut(1, 1, 0, 5000);
+        t.day();
+        due("LED", t.rooms(1, 8) > 0 ? 1 : 0, 1);
+        t.back(2);
+        t.room(0, 1, 1, 1, -1);
+        due("nothing LED in a new ROOM", t.rooms(1, 8), 0);
     }
 
     private static void promise32() {
@@ -1028,6 +1094,15 @@ public final class Promises {
         due("no LINE", t.line(-1, 0), -2);
         due("what 6", t.line(0, 6), -1);
         due("-1 ahead of -2", t.line(9, -1), -1);
+        IceTrade pit = withRoom(5, 1, 1, 1);
+        pit.warm(0, bits(-30f));
+        pit.terms(40, 1, 1000);
+        pit.cut(0, 0, 0, 1001);
+        pit.day();
+        due("a LOSS of 1", pit.line(0, 4), 1);
+        due("LEAST is left", pit.line(0, 5), 1000);
+        pit.day();
+        due("GONE", pit.line(0, 5), 0);
     }
 
     private static void promise33() {
