@@ -984,10 +984,11 @@ public final class Promises {
             twice.heap(0, 1000);
         }
         due("all of it", twice.pack(0), 24);
-        twice.heap(0, 1000);
-        twice.heap(0, 1000);
-        due("the HEAP anew", twice.pack(1), 10);
-        duePlaces(twice, 1, new int[] {18, 19, 0, 0, 0, 0, 0, 0, 0, 0, 0, 0, 0, 0, 0, 0, 0, 0});
+        for (int n = 0; n < 4; n++) {
+            twice.heap(0, 1000);
+        }
+        due("the HEAP anew", twice.pack(1), 16);
+        duePlaces(twice, 1, new int[] {18, 19, 0, 20, 21, 0, 0, 0, 0, 0, 0, 0, 0, 0, 0, 0, 0, 0});
         theLastBlock();
     }
 
