@@ -413,7 +413,7 @@ public final class IceTrade {
         if (asked == null) {
             return refuse(NO_SUCH);
         }
-        if (pile.size > asked.places() || pile.size > MOST_BLOCKS - now.blockCount) {
+        if (pile.size > asked.places || pile.size > MOST_BLOCKS - now.blockCount) {
             return refuse(TOO_MANY);
         }
         if (pile.size == 0 || !asked.isAllLaid() || !asked.isEmpty()) {
@@ -512,8 +512,7 @@ public final class IceTrade {
 
     private void cutPileInto(int number, Room marked) {
         int cut = 0;
-        int places = marked.places();
-        for (int p = 0; p < places && cut < pile.size; p++) {
+        for (int p = 0; p < marked.places && cut < pile.size; p++) {
             if (marked.held(p) != NOTHING) {
                 now.addBlock(number, p, pile.kinds[cut], pile.grams[cut]);
                 cut++;
@@ -626,6 +625,7 @@ public final class IceTrade {
         int width;
         int rows;
         int layers;
+        int places;
         int within;
         int led;
         int standing;
@@ -639,6 +639,7 @@ public final class IceTrade {
             width = newWidth;
             rows = newRows;
             layers = newLayers;
+            places = newWidth * newRows * newLayers;
             within = newWithin;
             led = 0;
             standing = 0;
@@ -651,6 +652,7 @@ public final class IceTrade {
             width = other.width;
             rows = other.rows;
             layers = other.layers;
+            places = other.places;
             within = other.within;
             led = other.led;
             standing = other.standing;
@@ -658,12 +660,8 @@ public final class IceTrade {
             System.arraycopy(other.cells, 0, cells, 0, MOST_PLACES);
         }
 
-        int places() {
-            return width * rows * layers;
-        }
-
         boolean hasPlace(int place) {
-            return place >= 0 && place < places() && place < MOST_PLACES;
+            return place >= 0 && place < places && place < MOST_PLACES;
         }
 
         boolean hasRow(int layer, int row) {
@@ -698,8 +696,9 @@ public final class IceTrade {
         }
 
         boolean isRowEmpty(int layer, int row) {
+            int first = width * (row + rows * layer);
             for (int x = 0; x < width; x++) {
-                if (heldAt(x, row, layer) != NOTHING) {
+                if (held(first + x) != NOTHING) {
                     return false;
                 }
             }
@@ -707,7 +706,6 @@ public final class IceTrade {
         }
 
         boolean isEmpty() {
-            int places = places();
             for (int p = 0; p < places; p++) {
                 if (held(p) != NOTHING) {
                     return false;
@@ -726,7 +724,7 @@ public final class IceTrade {
         }
 
         int rowOf(int place) {
-            return width < 1 ? 0 : place / width - rows * layerOf(place);
+            return width < 1 || rows < 1 ? 0 : place / width % rows;
         }
 
         private int columnOf(int place) {
@@ -747,28 +745,20 @@ public final class IceTrade {
             return held(place + width * rows);
         }
 
-        /** Beyond the ROOM there is nothing, as in a ROW that is not LAID. */
-        private int heldAt(int x, int y, int z) {
-            boolean inside = x >= 0 && x < width && hasRow(z, y);
-            return inside ? held(x + width * (y + rows * z)) : NOTHING;
-        }
-
         boolean bears(int place) {
             int beneath = held(place - width * rows);
             return layerOf(place) == 0 || beneath == STRAW || beneath >= FIRST_BLOCK;
         }
 
+        /** Beyond the ROOM there is nothing, as in a ROW that is not LAID; the PLACE has to be one of the ROOM's. */
         int beside(int place, int side) {
-            int x = columnOf(place);
-            int y = rowOf(place);
-            int z = layerOf(place);
             switch (side) {
-                case 0: return heldAt(x - 1, y, z);
-                case 1: return heldAt(x + 1, y, z);
-                case 2: return heldAt(x, y - 1, z);
-                case 3: return heldAt(x, y + 1, z);
-                case 4: return heldAt(x, y, z - 1);
-                default: return heldAt(x, y, z + 1);
+                case 0: return columnOf(place) > 0 ? held(place - 1) : NOTHING;
+                case 1: return columnOf(place) < width - 1 ? held(place + 1) : NOTHING;
+                case 2: return rowOf(place) > 0 ? held(place - width) : NOTHING;
+                case 3: return rowOf(place) < rows - 1 ? held(place + width) : NOTHING;
+                case 4: return held(place - width * rows);
+                default: return held(place + width * rows);
             }
         }
 
@@ -1027,8 +1017,7 @@ public final class IceTrade {
             int best = NONE;
             int bestLoss = 0;
             int bestLayer = 0;
-            int places = room.places();
-            for (int p = 0; p < places; p++) {
+            for (int p = 0; p < room.places; p++) {
                 int block = room.held(p) - FIRST_BLOCK;
                 if (!hasBlock(block) || !isFree(block)) {
                     continue;
@@ -1374,7 +1363,7 @@ public final class IceTrade {
                 System.arraycopy(p.tried, 0, p.best, 0, MOST_TRIED);
                 return;
             }
-            int lastFit = room.places() - (blocks - depth);
+            int lastFit = room.places - (blocks - depth);
             for (int place = from; place <= lastFit; place++) {
                 if (room.bears(place)) {
                     int met = room.sidesIn(place, SHUT);
@@ -1395,8 +1384,7 @@ public final class IceTrade {
         private static int mostShut(Room room) {
             int found = NONE;
             int most = NONE;
-            int places = room.places();
-            for (int place = 0; place < places; place++) {
+            for (int place = 0; place < room.places; place++) {
                 if (room.held(place) == NOTHING && room.bears(place)) {
                     int shut = room.sidesIn(place, SHUT);
                     if (shut > most) {
