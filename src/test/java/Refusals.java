@@ -14,6 +14,7 @@ public final class Refusals extends Bounds {
 
     public static void main(String[] args) {
         numbersThatCantBe();
+        notAsThingsAre();
         firstInThatOrder();
         roomAlone();
         changesNothing();
@@ -125,6 +126,40 @@ public final class Refusals extends Bounds {
         due("alter(0, " + n + ", 1)", t.alter(0, n, 1), -1);
         due("any mask", t.alter(0, 4, n), 0);
         due("the LOSS in THE BOOK", t.line(0, 4), 180 ^ n);
+    }
+
+    // "-3 the ROW is not LAID; .. -7 not as things are."
+
+    /** Each is REFUSED, and is not any more when the one thing is mended. */
+    private static void notAsThingsAre() {
+        says("-3 the ROW is not LAID; -4 the PLACE is not free; -5 nothing beneath; -6 no room, or too many; -7 not as things"
+            + " are.");
+        IceTrade t = new IceTrade();
+        t.room(ROOM, 1, 1, 2, -1);
+        due("the ROW is not LAID", t.put(0, 0, STRAW), -3);
+        t.lay(0, 0, 0);
+        due("it is", t.put(0, 0, STRAW), 0);
+        due("the PLACE is not free", t.cut(0, 0, PLAIN, 1000), -4);
+        t.clear(0, 0);
+        due("it is", t.cut(0, 0, PLAIN, 1000), 0);
+        due("the ROW is LAID already", t.lay(0, 0, 0), -7);
+        t.lay(0, 1, 0);
+        due("something lies there", t.pack(0), -7);
+        t.take(0, 1);
+        due("nothing beneath", t.cut(0, 1, PLAIN, 1000), -5);
+        t.put(0, 0, STRAW);
+        due("something is", t.cut(0, 1, PLAIN, 1000), 1);
+        due("too many", t.take(0, 2), -6);
+        due("not too many", t.take(0, 1), 1000);
+        fillHeap(t, 3);
+        t.clear(0, 0);
+        due("no room", t.pack(0), -6);
+        addRoom(t, ROOM, 3, 1, 1, -1);
+        due("room", t.pack(1), 14);
+        for (int d = 0; d < 199; d++) {
+            due("day " + d, Math.min(t.day(), 0), 0);
+        }
+        due("no more of them", t.day(), -7);
     }
 
     // "The first of these in that order"

@@ -86,6 +86,8 @@ public final class TermsFourToSeven extends Bounds {
         due("LOSS of TODAY: all 0", today.next(0), 0);
         today.day();
         due("of the next day", today.next(0), 1);
+        today.take(0, 1);
+        due("TAKEN by the LOSS of that day", today.list(0), 1);
     }
 
     /** All of them have five sides in air: two on the floor side by side, two that lie on another one. */
@@ -679,6 +681,16 @@ public final class TermsFourToSeven extends Bounds {
         packsTo(1, 3, 2, 4, 16, new int[] {0, 1, 3, 4});
         packsTo(1, 1, 2, 2, 10, new int[] {0, 1});
         packsTo(2, 2, 2, 8, 24, new int[] {0, 1, 2, 3, 4, 5, 6, 7});
+        IceTrade twice = with(ROOM, 2, 2, 2);
+        addRoom(twice, ROOM, 3, 3, 2, -1);
+        fillHeap(twice, 8);
+        due("a cube", twice.pack(0), 24);
+        fillHeap(twice, 3);
+        due("three behind eight", twice.pack(1), 14);
+        int[] places = {18, 19, 20, 0};
+        for (int p = 0; p < 4; p++) {
+            due("PLACE " + p, twice.place(1, p), places[p]);
+        }
     }
 
     private static void oneByOne() {

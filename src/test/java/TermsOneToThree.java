@@ -290,6 +290,15 @@ public final class TermsOneToThree extends Bounds {
                 }
             }
         }
+        IceTrade column = new IceTrade();
+        column.room(PIT, 1, 1, 5, -1);
+        for (int z = 0; z < 5; z++) {
+            due("layer " + z + " of a column", column.place(0, z), -3);
+            column.lay(0, z, 0);
+            due("LAID", column.place(0, z), 0);
+            column.cut(0, z, PLAIN, 9000);
+            due("in water", column.block(z, 8) - column.block(z, 6) * 120, z == 0 ? 200 : 0);
+        }
     }
 
     private static void rowsLaid() {
@@ -630,6 +639,13 @@ public final class TermsOneToThree extends Bounds {
             due("STRAW at " + p, t.block(0, 8), 200);
             t.clear(0, p);
         }
+        IceTrade wide = with(PIT, 6, 6, 2);
+        tell(wide, 0, -600);
+        wide.cut(0, 0, PLAIN, 9000);
+        wide.put(0, 36, DRAIN);
+        due("a DRAIN in the first PLACE of layer 1", wide.block(0, 8), 200);
+        wide.put(0, 35, DRAIN);
+        due("a DRAIN in the last PLACE of layer 0", wide.block(0, 8), 0);
         t.terms(40, 0, 1000);
         due("WET 0", t.block(0, 8), 0);
         tell(t, 0, 0);
@@ -729,6 +745,15 @@ public final class TermsOneToThree extends Bounds {
         due("above it", ledShare(12), 0);
         due("in layer 0 of another column", ledShare(2), 1);
         due("in layer 0 of its column", ledShare(0), 1);
+        IceTrade wide = with(ROOM, 6, 6, 2);
+        tell(wide, 0, 1);
+        wide.cut(0, 0, PLAIN, 50000);
+        wide.put(0, 36, DRAIN);
+        wide.day();
+        due("in the first PLACE of layer 1, above it", wide.rooms(0, 8), 0);
+        wide.put(0, 35, DRAIN);
+        wide.day();
+        due("in the last PLACE of layer 0", wide.rooms(0, 8), 18);
         IceTrade t = with(ROOM, 1, 1, 1);
         addRoom(t, ROOM, 1, 1, 1, -1);
         tell(t, 0, 1);
